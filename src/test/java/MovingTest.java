@@ -7,6 +7,7 @@ final class MovingTest {
         nothingToMove();
         outOfALoop();
         firstComputeAlone();
+        setsBehindDeletionsAlone();
         insertionsInOrder();
         exitsStayInOrder();
         upToFortyBlocks();
@@ -27,7 +28,7 @@ final class MovingTest {
     }
 
     private static void outOfALoop() {
-        CodeMover x = withBlocks(3);
+        CodeMover x = Programs.of(3);
         x.addExpression(1);
         x.addEdge(0, 1);
         x.addEdge(1, 1);
@@ -55,7 +56,7 @@ final class MovingTest {
     }
 
     private static void firstComputeAlone() {
-        CodeMover x = withBlocks(2);
+        CodeMover x = Programs.of(2);
         x.addExpression(1);
         x.addExpression(2);
         x.addEdge(0, 1);
@@ -74,6 +75,19 @@ final class MovingTest {
         }
         CHECKS.same("instruction(0, 0)", 0, x.instruction(0, 0));
         CHECKS.same("early(1) behind move", 3, x.early(1));
+    }
+
+    private static void setsBehindDeletionsAlone() {
+        CodeMover x = Programs.of(2);
+        x.addExpression(1);
+        x.addEdge(0, 1);
+        x.compute(0, 0);
+        x.compute(1, 0);
+        CHECKS.same("early(1)", 1, x.early(1));
+        CHECKS.same("move()", 0, x.move());
+        CHECKS.same("early(1) behind move", 0, x.early(1));
+        CHECKS.same("needed(0, true) behind move", 0, x.needed(0, true));
+        CHECKS.same("deletions(1) behind move", 0, x.deletions(1));
     }
 
     private static void insertionsInOrder() {
@@ -99,7 +113,7 @@ final class MovingTest {
 
     /** Two diamonds behind one another, each with a computation that is there on one side alone. */
     private static CodeMover twoJoins() {
-        CodeMover x = withBlocks(7);
+        CodeMover x = Programs.of(7);
         for (int variables = 1; variables <= 8; variables *= 2) {
             x.addExpression(variables);
         }
@@ -119,7 +133,7 @@ final class MovingTest {
     }
 
     private static void exitsStayInOrder() {
-        CodeMover x = withBlocks(4);
+        CodeMover x = Programs.of(4);
         x.addExpression(1);
         x.addEdge(0, 3);
         x.addEdge(1, 3);
@@ -141,7 +155,7 @@ final class MovingTest {
 
     /** The edge from 0 to 1 and the loop: one insertion; filled up with blocks to no purpose. */
     private static CodeMover loopAmong(int blocks) {
-        CodeMover x = withBlocks(blocks);
+        CodeMover x = Programs.of(blocks);
         x.addExpression(1);
         x.addEdge(0, 1);
         x.addEdge(1, 1);
@@ -171,7 +185,7 @@ final class MovingTest {
     }
 
     private static void eightInsertions() {
-        CodeMover x = withBlocks(3);
+        CodeMover x = Programs.of(3);
         x.addEdge(0, 1);
         x.addEdge(1, 1);
         x.addEdge(1, 2);
@@ -186,13 +200,5 @@ final class MovingTest {
             CHECKS.same("instruction(3, " + i + ")", 3 * i, x.instruction(3, i));
             CHECKS.same("instruction(1, " + i + ")", 3 * i + 1, x.instruction(1, i));
         }
-    }
-
-    private static CodeMover withBlocks(int count) {
-        CodeMover x = new CodeMover();
-        for (int block = 1; block < count; block++) {
-            x.addBlock();
-        }
-        return x;
     }
 }

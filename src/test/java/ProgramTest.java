@@ -67,7 +67,7 @@ final class ProgramTest {
     }
 
     private static void edges() {
-        CodeMover x = withBlocks(5);
+        CodeMover x = Programs.of(5);
         int[][] pairs = {{0, 1}, {1, 1}, {1, 4}, {4, 1}, {4, 3}, {3, 1}, {0, 4}, {2, 2}};
         for (int i = 0; i < pairs.length; i++) {
             CHECKS.same("addEdge", i, x.addEdge(pairs[i][0], pairs[i][1]));
@@ -80,7 +80,7 @@ final class ProgramTest {
     }
 
     private static void edgeRefusals() {
-        CodeMover x = withBlocks(4);
+        CodeMover x = Programs.of(4);
         for (int never : NEVER) {
             CHECKS.refused("addEdge(" + never + ", 0)", x, INDEX, () -> x.addEdge(never, 0));
             CHECKS.refused("addEdge(1, " + never + ")", x, INDEX, () -> x.addEdge(1, never));
@@ -103,7 +103,7 @@ final class ProgramTest {
     }
 
     private static void eightyEdges() {
-        CodeMover x = withBlocks(40);
+        CodeMover x = Programs.of(40);
         for (int block = 0; block < 40; block++) {
             CHECKS.same("first exit", 2 * block, x.addEdge(block, 39));
             CHECKS.same("second exit", 2 * block + 1, x.addEdge(block, 38));
@@ -116,7 +116,7 @@ final class ProgramTest {
     }
 
     private static void appending() {
-        CodeMover x = withBlocks(3);
+        CodeMover x = Programs.of(3);
         for (int i = 0; i < 8; i++) {
             x.addExpression(i);
         }
@@ -136,7 +136,7 @@ final class ProgramTest {
     }
 
     private static void appendingRefusals() {
-        CodeMover x = withBlocks(2);
+        CodeMover x = Programs.of(2);
         CHECKS.refused("compute without expressions", x, INDEX, () -> x.compute(0, 0));
         CHECKS.refused("use without expressions", x, INDEX, () -> x.use(0, 0));
         x.addExpression(1);
@@ -178,7 +178,7 @@ final class ProgramTest {
     }
 
     private static void dropping() {
-        CodeMover x = withBlocks(2);
+        CodeMover x = Programs.of(2);
         x.addExpression(3);
         CHECKS.refused("drop of an empty block", x, STATE, () -> x.drop(1));
         x.compute(1, 0);
@@ -200,7 +200,7 @@ final class ProgramTest {
     }
 
     private static void reading() {
-        CodeMover x = withBlocks(40);
+        CodeMover x = Programs.of(40);
         x.assign(39, 3);
         CHECKS.same("size(39)", 1, x.size(39));
         CHECKS.refused("size(40)", x, INDEX, () -> x.size(40));
@@ -211,13 +211,5 @@ final class ProgramTest {
         CHECKS.refused("ends(0)", x, INDEX, () -> x.ends(0));
         x.addEdge(39, 39);
         CHECKS.same("ends(0)", 1599, x.ends(0));
-    }
-
-    private static CodeMover withBlocks(int count) {
-        CodeMover x = new CodeMover();
-        for (int block = 1; block < count; block++) {
-            x.addBlock();
-        }
-        return x;
     }
 }

@@ -15,12 +15,16 @@ final class SetsTest {
         delayedFromTheBeginning();
         delayedWithoutBeginning();
         setsFollowChanges();
+        everySetFollows();
+        allEdgesAndBlocks();
+        longChain(true);
+        longChain(false);
         wrongNumbers();
         CHECKS.end();
     }
 
     private static void setsOfOneBlock() {
-        CodeMover x = program(1, 1, 2, 0, 3);
+        CodeMover x = Programs.of(1, 1, 2, 0, 3);
         x.compute(0, 0);
         x.assign(0, 0);
         x.compute(0, 0);
@@ -40,7 +44,7 @@ final class SetsTest {
     }
 
     private static void usesCountForNothing() {
-        CodeMover x = program(2, 1);
+        CodeMover x = Programs.of(2, 1);
         x.addEdge(0, 1);
         x.use(0, 0);
         x.use(1, 0);
@@ -53,7 +57,7 @@ final class SetsTest {
     }
 
     private static void neededOnAllWays() {
-        CodeMover x = program(4, 1, 2, 4);
+        CodeMover x = Programs.of(4, 1, 2, 4);
         x.addEdge(0, 1);
         x.addEdge(1, 2);
         x.addEdge(1, 3);
@@ -76,7 +80,7 @@ final class SetsTest {
     }
 
     private static void neededForEver() {
-        CodeMover x = program(3, 1, 2);
+        CodeMover x = Programs.of(3, 1, 2);
         x.addEdge(0, 1);
         x.addEdge(1, 2);
         x.addEdge(2, 1);
@@ -89,7 +93,7 @@ final class SetsTest {
     }
 
     private static void thereOnAllWays() {
-        CodeMover x = program(5, 1, 2, 4);
+        CodeMover x = Programs.of(5, 1, 2, 4);
         x.addEdge(0, 1);
         x.addEdge(0, 2);
         x.addEdge(1, 3);
@@ -112,7 +116,7 @@ final class SetsTest {
     }
 
     private static void thereWithoutBeginning() {
-        CodeMover x = program(4, 1, 2);
+        CodeMover x = Programs.of(4, 1, 2);
         x.addEdge(2, 2);
         x.addEdge(2, 3);
         CHECKS.same("there(1, false)", 0, x.there(1, false));
@@ -125,7 +129,7 @@ final class SetsTest {
     }
 
     private static void earliestPlaces() {
-        CodeMover x = program(4, 1, 2, 4);
+        CodeMover x = Programs.of(4, 1, 2, 4);
         x.addEdge(0, 1);
         x.addEdge(0, 2);
         x.addEdge(1, 3);
@@ -145,7 +149,7 @@ final class SetsTest {
     }
 
     private static void delayedToTheUse() {
-        CodeMover x = program(5, 1, 2);
+        CodeMover x = Programs.of(5, 1, 2);
         x.addEdge(0, 1);
         x.addEdge(0, 2);
         x.addEdge(1, 3);
@@ -168,7 +172,7 @@ final class SetsTest {
     }
 
     private static void delayedFromTheBeginning() {
-        CodeMover x = program(3, 1);
+        CodeMover x = Programs.of(3, 1);
         x.addEdge(0, 1);
         x.addEdge(1, 1);
         x.addEdge(1, 2);
@@ -187,7 +191,7 @@ final class SetsTest {
     }
 
     private static void delayedWithoutBeginning() {
-        CodeMover x = program(4, 1, 2);
+        CodeMover x = Programs.of(4, 1, 2);
         x.addEdge(1, 1);
         x.addEdge(3, 2);
         x.compute(2, 0);
@@ -203,7 +207,7 @@ final class SetsTest {
     }
 
     private static void setsFollowChanges() {
-        CodeMover x = program(2, 1);
+        CodeMover x = Programs.of(2, 1);
         x.addEdge(0, 1);
         CHECKS.same("needed(0, true)", 0, x.needed(0, true));
         x.compute(1, 0);
@@ -221,8 +225,113 @@ final class SetsTest {
         CHECKS.same("kept(0) behind drop", 3, x.kept(0));
     }
 
+    /** Each method is the first one that is called behind a change. */
+    private static void everySetFollows() {
+        CHECKS.same("kept(1)", 1, changed().kept(1));
+        CHECKS.same("early(1)", 1, changed().early(1));
+        CHECKS.same("late(1)", 1, changed().late(1));
+        CHECKS.same("needed(0, false)", 1, changed().needed(0, false));
+        CHECKS.same("needed(0, true)", 1, changed().needed(0, true));
+        CHECKS.same("there(2, false)", 1, changed().there(2, false));
+        CHECKS.same("there(1, true)", 1, changed().there(1, true));
+        CHECKS.same("delayedAt(0)", 1, changed().delayedAt(0));
+        CHECKS.same("delayedOn(0)", 1, changed().delayedOn(0));
+        CHECKS.same("insertions(0)", 1, changed().insertions(0));
+        CHECKS.same("deletions(1)", 1, changed().deletions(1));
+        CodeMover x = changed();
+        x.assign(0, 0);
+        CHECKS.same("earliest(0)", 1, x.earliest(0));
+    }
+
+    /** A loop whose sets were all asked for before its computation was added. */
+    private static CodeMover changed() {
+        CodeMover x = Programs.of(3, 1);
+        x.addEdge(0, 1);
+        x.addEdge(1, 1);
+        x.addEdge(1, 2);
+        CHECKS.same("deletions(1) before", 0, x.deletions(1));
+        x.compute(1, 0);
+        return x;
+    }
+
+    /** 80 edges among 40 blocks, the last one with 12 instructions; all lead to 38 and 39. */
+    private static void allEdgesAndBlocks() {
+        CodeMover x = Programs.of(40, 1, 2, 4, 8, 16, 32, 63, 0);
+        for (int block = 0; block < 40; block++) {
+            x.addEdge(block, 38);
+            x.addEdge(block, 39);
+        }
+        for (int e = 0; e < 8; e++) {
+            x.compute(38, e);
+            x.compute(39, e);
+        }
+        for (int i = 0; i < 4; i++) {
+            x.assign(39, 2);
+        }
+        CHECKS.same("late(39)", 255 - 4 - 64, x.late(39));
+        CHECKS.same("there(38, false)", 0, x.there(38, false));
+        CHECKS.same("needed(0, true)", 255, x.needed(0, true));
+        CHECKS.same("earliest(76), the loop of 38", 0, x.earliest(76));
+        CHECKS.same("earliest(79), the loop of 39", 4 + 64, x.earliest(79));
+        CHECKS.same("delayedOn(79)", 4 + 64, x.delayedOn(79));
+        CHECKS.same("delayedOn(1)", 255, x.delayedOn(1));
+        CHECKS.same("delayedAt(39)", 0, x.delayedAt(39));
+        CHECKS.same("insertions(79)", 4 + 64, x.insertions(79));
+        CHECKS.same("deletions(39)", 255, x.deletions(39));
+        CHECKS.refused("move()", x, IllegalStateException.class, x::move);
+        CHECKS.same("instruction(39, 0)", 0, x.instruction(39, 0));
+        for (int i = 0; i < 12; i++) {
+            x.drop(39);
+        }
+        for (int i = 0; i < 8; i++) {
+            x.drop(38);
+        }
+        for (int i = 0; i < 12; i++) {
+            x.assign(39, i % 6);
+            x.assign(38, i % 6);
+        }
+        CHECKS.same("kept(39)", 128, x.kept(39));
+        CHECKS.same("needed(39, false)", 128, x.needed(39, false));
+        // Nothing is delayed at blocks 1 to 37, to which no edge leads, and so not at 38 and 39.
+        CHECKS.same("delayedOn(0)", 128, x.delayedOn(0));
+        CHECKS.same("delayedOn(79)", 0, x.delayedOn(79));
+        CHECKS.same("insertions(0)", 128, x.insertions(0));
+        x.compute(0, 7);
+        CHECKS.same("insertions(0) behind a compute", 0, x.insertions(0));
+        CHECKS.same("move() with 80 edges", 0, x.move());
+        CHECKS.same("walk through the loop of 39", 1000, x.walk(-1L, 1000));
+        CHECKS.same("lastBlock()", 39, x.lastBlock());
+    }
+
+    /** A chain of all blocks that ends in a loop; its edges have the worst numbers for a round. */
+    private static void longChain(boolean fromTheEnd) {
+        CodeMover x = Programs.of(40, 1, 2, 4);
+        x.addEdge(39, 39);
+        for (int i = 0; i < 39; i++) {
+            int block = fromTheEnd ? 38 - i : i;
+            x.addEdge(block, block + 1);
+        }
+        x.compute(0, 0);
+        x.compute(39, 1);
+        x.assign(39, 2);
+        for (int block = 0; block < 40; block++) {
+            CHECKS.same("needed(" + block + ", false)", 3, x.needed(block, false));
+            CHECKS.same("there(" + block + ", true)", block == 39 ? 3 : 1, x.there(block, true));
+            CHECKS.same("delayedAt(" + block + ")", block == 0 ? 3 : block < 39 ? 2 : 0,
+                    x.delayedAt(block));
+        }
+        CHECKS.same("deletions(39)", 2, x.deletions(39));
+        x.drop(39);
+        x.drop(39);
+        x.assign(39, 0);
+        for (int block = 1; block < 40; block++) {
+            CHECKS.same("needed(" + block + ", false)", 6, x.needed(block, false));
+            CHECKS.same("there(" + block + ", false)", block == 39 ? 0 : 1, x.there(block, false));
+        }
+    }
+
     private static void wrongNumbers() {
-        CodeMover x = program(3, 1);
+        CodeMover x = Programs.of(3, 1);
         x.addEdge(0, 1);
         x.addEdge(1, 2);
         for (int block : new int[] {-1, 3, 40, Integer.MIN_VALUE, Integer.MAX_VALUE}) {
@@ -241,16 +350,5 @@ final class SetsTest {
             CHECKS.refused("delayedOn", x, INDEX, () -> x.delayedOn(edge));
             CHECKS.refused("insertions", x, INDEX, () -> x.insertions(edge));
         }
-    }
-
-    private static CodeMover program(int blocks, int... variables) {
-        CodeMover x = new CodeMover();
-        for (int block = 1; block < blocks; block++) {
-            x.addBlock();
-        }
-        for (int set : variables) {
-            x.addExpression(set);
-        }
-        return x;
     }
 }

@@ -21,7 +21,7 @@ final class WalkTest {
     }
 
     private static void noWalkYet() {
-        CodeMover x = withBlocks(1);
+        CodeMover x = Programs.of(1);
         x.addExpression(0);
         x.compute(0, 0);
         x.use(0, 0);
@@ -32,7 +32,7 @@ final class WalkTest {
     }
 
     private static void blocksWithoutExits() {
-        CodeMover x = withBlocks(3);
+        CodeMover x = Programs.of(3);
         CHECKS.same("walk(-1, 1000)", 1, x.walk(-1L, 1000));
         CHECKS.same("lastBlock()", 0, x.lastBlock());
         x.addEdge(0, 2);
@@ -42,7 +42,7 @@ final class WalkTest {
 
     /** Block 1 leads to itself first, to block 2 second. */
     private static CodeMover loop() {
-        CodeMover x = withBlocks(3);
+        CodeMover x = Programs.of(3);
         x.addExpression(1);
         x.addEdge(0, 1);
         x.addEdge(1, 1);
@@ -62,14 +62,14 @@ final class WalkTest {
     }
 
     private static void bitsComeAgain() {
-        CodeMover x = withBlocks(3);
+        CodeMover x = Programs.of(3);
         x.addEdge(0, 1);
         x.addEdge(0, 2);
         x.addEdge(1, 1);
         x.addEdge(1, 2);
         CHECKS.same("walk(0, 200)", 200, x.walk(0L, 200));
         CHECKS.same("walk(1, 200)", 2, x.walk(1L, 200));
-        CodeMover y = withBlocks(4);
+        CodeMover y = Programs.of(4);
         y.addEdge(0, 2);
         y.addEdge(0, 1);
         y.addEdge(1, 3);
@@ -82,7 +82,7 @@ final class WalkTest {
     }
 
     private static void oneExitTakesNoBit() {
-        CodeMover x = withBlocks(5);
+        CodeMover x = Programs.of(5);
         x.addEdge(0, 1);
         x.addEdge(1, 2);
         x.addEdge(2, 3);
@@ -108,7 +108,7 @@ final class WalkTest {
     }
 
     private static void computedAndHeld() {
-        CodeMover x = withBlocks(2);
+        CodeMover x = Programs.of(2);
         x.addExpression(1);
         x.addExpression(2);
         x.addExpression(0);
@@ -209,13 +209,5 @@ final class WalkTest {
             CHECKS.refused("heldFor(" + wrong + ")", x, INDEX, () -> x.heldFor(wrong));
         }
         CHECKS.same("computed(0)", 0, x.computed(0));
-    }
-
-    private static CodeMover withBlocks(int count) {
-        CodeMover x = new CodeMover();
-        for (int block = 1; block < count; block++) {
-            x.addBlock();
-        }
-        return x;
     }
 }
