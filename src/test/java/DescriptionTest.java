@@ -418,20 +418,21 @@ final class DescriptionTest {
         CHECKS.same("deletions(2) behind move", 1, x.deletions(2));
     }
 
+    /** The first block and the last one of 40 are full, and so is the list of expressions. */
     private static void movingInFullBlocks() {
-        CodeMover x = Programs.of(2, 1, 2);
-        x.addEdge(0, 1);
+        CodeMover x = Programs.of(40, 1, 2, 0, 0, 0, 0, 0, 4);
+        x.addEdge(0, 39);
         for (int i = 0; i < 12; i++) {
-            x.compute(0, i == 11 ? 0 : 1);
-            x.compute(1, i == 11 ? 0 : 1);
+            x.compute(0, i == 11 ? 7 : 1);
+            x.compute(39, i == 11 ? 7 : 1);
         }
-        CHECKS.same("deletions(1)", 3, x.deletions(1));
+        CHECKS.same("deletions(39)", 130, x.deletions(39));
         CHECKS.same("move()", 0, x.move());
-        CHECKS.same("size(1)", 12, x.size(1));
-        CHECKS.same("instruction(1, 0)", 4, x.instruction(1, 0));
-        CHECKS.same("instruction(1, 1)", 3, x.instruction(1, 1));
-        CHECKS.same("instruction(1, 11)", 1, x.instruction(1, 11));
-        CHECKS.same("instruction(0, 11)", 0, x.instruction(0, 11));
+        CHECKS.same("size(39)", 12, x.size(39));
+        CHECKS.same("instruction(39, 0)", 4, x.instruction(39, 0));
+        CHECKS.same("instruction(39, 1)", 3, x.instruction(39, 1));
+        CHECKS.same("instruction(39, 11)", 22, x.instruction(39, 11));
+        CHECKS.same("instruction(0, 11)", 21, x.instruction(0, 11));
     }
 
     /** "All insertions and deletions are those of the program before." */
