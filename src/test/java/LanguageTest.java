@@ -35,6 +35,7 @@ final class LanguageTest {
         }
         checkThrows(code);
         checkStaticFields(code);
+        checkMakings(code.split("\n"));
         checkMethods(code.split("\n"));
         CHECKS.holds("at most some twelve classes",
                 Pattern.compile("\\bclass\\b").matcher(code).results().count() <= MOST_CLASSES);
@@ -61,6 +62,26 @@ final class LanguageTest {
         while (field.find()) {
             CHECKS.holds(field.group() + " keeps to rule 5",
                     field.group().matches("static final (int|long) [A-Z_]+ ="));
+        }
+    }
+
+    /**
+     * All calls of a run live in one room, so rows and parts are made with the object: what is made
+     * stands in a field's initialiser, in the constructor of the class, or behind a throw.
+     */
+    private static void checkMakings(String[] lines) {
+        String[] allowed = {
+            " *throw new .*",
+            " {8}(private )?final int\\[\\] \\w+ = new int\\[[^\\]]*\\];",
+            " {8}(program = new Program\\(\\)|sets = new Sets\\(program\\)"
+                    + "|latest = new Journey\\(program\\));",
+        };
+        for (String line : lines) {
+            boolean fits = !Pattern.compile("\\bnew\\b").matcher(line).find();
+            for (String form : allowed) {
+                fits = fits || line.matches(form);
+            }
+            CHECKS.holds("made once or thrown: " + line.trim(), fits);
         }
     }
 
